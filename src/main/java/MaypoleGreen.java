@@ -25,7 +25,7 @@ public final class MaypoleGreen {
 
     private static final int DANCER = 0, PIPER = 4, KINDS = 5;
     private static final int GREETS = 0, LEADS = 1, RESTS = 2, ACTS = 3;
-    private static final int[] KIND_ABOVE = {-1, DANCER, DANCER, 2, DANCER};
+    private static final int[] KIND_ABOVE = {-1, 0, 0, 2, 0};
     /** By 3 KIND and act; 0 where a KIND has no body of its own. */
     private static final int[] BODIES = {10, 11, 12, 20, 0, 0, 0, 30, 0, 40, 41, 0, 0, 0, 50};
 
@@ -531,6 +531,14 @@ public final class MaypoleGreen {
         return place >= 0 && place < floor.n;
     }
 
+    private static int behind(int place, int n) {
+        return place + 1 < n ? place + 1 : 0;
+    }
+
+    private static int ahead(int place, int n) {
+        return place > 0 ? place - 1 : n - 1;
+    }
+
     private static boolean isColour(int colour) {
         return colour >= 0 && colour < COLOURS;
     }
@@ -833,10 +841,6 @@ public final class MaypoleGreen {
             return 10 + rows / 3;
         }
 
-        int behind(int place) {
-            return place + 1 < n ? place + 1 : 0;
-        }
-
         /** Does a STEP: 0, or why it is not done. The marks of a WALK's ROW stay till unmark(). */
         int take(int code) {
             if (code >= WALK_ON) {
@@ -849,7 +853,7 @@ public final class MaypoleGreen {
             if (p < 0 || p >= n) {
                 return STATE;
             }
-            int next = behind(p);
+            int next = behind(p, n);
             int one = order[p];
             int other = order[next];
             int ofOne = how == 0 ? 1 : 2;
@@ -884,9 +888,9 @@ public final class MaypoleGreen {
             for (int place = 0; place < n; place++) {
                 left[place] -= need;
                 if (on) {
-                    moved[behind(place)] = order[place];
+                    moved[behind(place, n)] = order[place];
                 } else {
-                    moved[place] = order[behind(place)];
+                    moved[place] = order[behind(place, n)];
                 }
             }
             System.arraycopy(moved, 0, order, 0, n);
@@ -949,10 +953,8 @@ public final class MaypoleGreen {
         }
 
         private int ribbonOnTop(int row, int place) {
-            int ahead = place > 0 ? place - 1 : n - 1;
-            int behind = place + 1 < n ? place + 1 : 0;
-            boolean covered = markAt(row, place) == 1 && markAt(row, ahead) != 2;
-            return ribbonAt(row, covered ? behind : place);
+            boolean covered = markAt(row, place) == 1 && markAt(row, ahead(place, n)) != 2;
+            return ribbonAt(row, covered ? behind(place, n) : place);
         }
 
         int topRibbon(int row, int place) {
@@ -1281,14 +1283,6 @@ public final class MaypoleGreen {
             return n;
         }
 
-        private static int behind(int p, int n) {
-            return p + 1 < n ? p + 1 : 0;
-        }
-
-        private static int ahead(int p, int n) {
-            return p > 0 ? p - 1 : n - 1;
-        }
-
         boolean isLike(Form other) {
             if (turns != other.turns || count != other.count) {
                 return false;
@@ -1355,7 +1349,7 @@ public final class MaypoleGreen {
         }
 
         private void swap(int p, int n) {
-            int next = p + 1 < n ? p + 1 : 0;
+            int next = behind(p, n);
             int one = row[p];
             row[p] = row[next];
             row[next] = one;
@@ -1506,7 +1500,7 @@ public final class MaypoleGreen {
 
         /** Two change places: both their PACES. */
         private int change(int p) {
-            int next = p + 1 < n ? p + 1 : 0;
+            int next = behind(p, n);
             int one = moving[p];
             moving[p] = moving[next];
             moving[next] = one;
