@@ -33,6 +33,11 @@ public final class ClothTest {
             Check.due("no MARK since the ROW ahead", g.cloth(1, p, 1), 0);
             Check.due("BACK", g.cloth(1, p, 0), p);
         }
+        g.end();
+        g.begin();
+        g.walk(0);
+        Check.due("no MARK of the DANCE ahead", g.cloth(0, 2, 1), 0);
+        g.walk(0);
         Check.due("cloth(2, 0, 0)", g.cloth(2, 0, 0), -1);
         Check.due("cloth(0, 4, 0)", g.cloth(0, 4, 0), -1);
         Check.due("cloth(0, -1, 0)", g.cloth(0, -1, 0), -1);
@@ -206,6 +211,7 @@ public final class ClothTest {
             int c = 1 + random.nextInt(4);
             int[] best = allColours(g, n, c, told);
             Check.due("colours(" + c + ", -1)", g.colours(c, -1), best[n]);
+            Check.due("colours(" + c + ", -1) again", g.colours(c, -1), best[n]);
             for (int r = 0; r < n; r++) {
                 Check.due("colours(" + c + ", " + r + ")", g.colours(c, r), best[r]);
             }

@@ -60,6 +60,12 @@ public final class FigureTest {
     }
 
     private static void faults() {
+        MaypoleGreen old = new MaypoleGreen();
+        Greens.figure(old, "0<(w)2");
+        Check.due("what an old text had is gone", Greens.figure(old, "0"), -11);
+        Check.due("what an old text had is gone", Greens.figure(old, "0<(w)"), -15);
+        Check.due("80 bytes, too early", Greens.figure(old, "w".repeat(79) + "0"), -90);
+        Check.due("80 bytes, too early", Greens.figure(old, "w".repeat(77) + "(w)"), -90);
         isFault("", 0);
         isFault("0", 1);
         isFault("0w", 1);
@@ -324,5 +330,10 @@ public final class FigureTest {
         Check.due("left at 0", g.at(0, 2), 0);
         Check.due("left at 1", g.at(1, 2), 3);
         Check.due("left at 2", g.at(2, 2), 3);
+        MaypoleGreen nine = Greens.dancing(9, 500);
+        Greens.figure(nine, "8<9<");
+        Check.due("9 is no PLACE of nine", nine.dance(0), 1);
+        Check.due("nor of a FORM", nine.form(0, -1), -97);
+        Check.due("nor right", nine.right(0), 0);
     }
 }

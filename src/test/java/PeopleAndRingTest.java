@@ -41,6 +41,10 @@ public final class PeopleAndRingTest {
         Check.due("a 16th", g.person(0, 1, 1), -4);
         Check.due("a bad 16th: BAD is named ahead of FULL", g.person(5, 1, 1), -2);
         Check.due("count(0)", g.count(0), 15);
+        g.ring(3);
+        Check.due("no 16th to stand", g.stand(0, 15), -1);
+        Check.due("no 16th to act", g.act(15, 0, 1), 0);
+        Check.due("no 16th to be taken", g.taken(15, 0), -11);
     }
 
     private static void ring() {
@@ -175,5 +179,12 @@ public final class PeopleAndRingTest {
         Check.due("THE DANCE is empty", g.step(0), -1);
         Check.due("RIBBONS are called by their PLACES", g.at(1, 3), 1);
         Check.due("end()", g.end(), 0);
+        MaypoleGreen nine = Greens.dancing(9, 500);
+        nine.walk(1);
+        Check.due("end() of nine", nine.end(), 1);
+        for (int p = 0; p < 9; p++) {
+            Check.due("who is at " + p, nine.at(p, 0), (p + 1) % 9);
+            Check.due("the RIBBON at " + p, nine.at(p, 3), p);
+        }
     }
 }

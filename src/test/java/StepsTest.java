@@ -118,6 +118,13 @@ public final class StepsTest {
         Check.due("STEPS", g.count(2), 300);
         Check.due("ROWS", g.rows(), 0);
 
+        MaypoleGreen w = Greens.dancing(3, 99999);
+        Greens.figure(w, "(((w0<1>)5)4)5");
+        Check.due("300 STEPS, ROWS among them", w.dance(0), 300);
+        Check.due("ROWS", w.rows(), 100);
+        Check.due("no room for a PASS", w.pass(0, 0), -4);
+        Check.due("no room for a WALK", w.walk(0), -4);
+
         // 300 PASSES take 4 a pair of RIBBON 1: it is too short then, and STATE is named ahead of FULL
         MaypoleGreen s = Greens.dancing(3, 600);
         Greens.figure(s, "(((0<0>)9)8)2");
