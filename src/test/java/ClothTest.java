@@ -7,6 +7,7 @@ public final class ClothTest {
         tops();
         beat();
         beatByAll();
+        wholeClothOfNine();
         picture();
         wrong();
         coloursRefused();
@@ -86,6 +87,19 @@ public final class ClothTest {
             one.pass(i % 3, 0);
             Check.due("one COLOUR", one.beat(), 1);
         }
+    }
+
+    private static void wholeClothOfNine() {
+        MaypoleGreen g = Greens.dancing(9, 99999);
+        Greens.figure(g, "(((w)9)9)-((v)9)2");
+        Check.due("99 ROWS", g.dance(0), 99);
+        g.walk(0);
+        Check.due("100 ROWS", g.rows(), 100);
+        Check.due("the last is unlike", g.beat(), leastBeat(g, 9));
+        Check.due("the last TOP", g.cloth(99, 8, 2), g.at(8, 1));
+        g.end();
+        g.ring(4);
+        Check.due("no ROWS", g.beat(), -3);
     }
 
     private static void beatByAll() {

@@ -302,6 +302,8 @@ public final class FigureTest {
         }
         Check.due("count(3)", g.count(3), 10);
         Check.due("I and v", g.told(9, -1), 10);
+        Check.due("no 11th", g.told(10, -1), -1);
+        Check.due("no 11th", g.dance(10), -1);
         Greens.feed(g, "J");
         Check.due("an 11th", g.figure(), -4);
         Check.due("THE TEXT stays", g.count(4), 1);
