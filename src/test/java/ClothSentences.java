@@ -21,6 +21,9 @@ final class ClothSentences {
             walk(0) = 100; rows() = 100; cloth(99, 0, 0) = 2; cloth(100, 0, 0) = -1
             ! walk(0) = -4; rows() = 100
             end(); begin(); walk(0) = 1; rows() = 1
+            new                                           # of nine, too
+            dance of 9 with 99999; figure "((w)9)9((w)9)2w"; dance(0) = 100; ! walk(0) = -4
+            cloth(99, *, 0) = 8 0 1 2 3 4 5 6 7 -1; cloth(99, *, 2) = 7 0 1 2 3 4 5 6 7 -1
             """);
         s.holds("Terms 2", "Each WALK lays a ROW: for each PLACE the RIBBON of who stands there behind it", """
             dance of 4 with 500; pass(0, 0); rows() = 0
@@ -103,6 +106,9 @@ final class ClothSentences {
             dance of 3 with 99999; figure "((w)9)9((w)9)2w"; dance(0) = 100; beat() = 3
             new
             dance of 3 with 99999; figure "((w)9)9((w)9)2v"; dance(0) = 100; beat() = 100
+            new                                           # nine PLACES, then three
+            dance of 9 with 999; 9 * walk(0); beat() = 9; walk(0); beat() = 9; end(); ring(3); stand(0, 0); stand(1, 1)
+            stand(2, 2); ribbon(0, 0, 99); ribbon(1, 1, 99); ribbon(2, 2, 99); begin(); 4 * walk(0) = 1 ..; beat() = 3
             """);
         s.holds("Terms 2", "(THE CLOTH's ROWS, if there are fewer than 2).", """
             dance of 3 with 500; walk(0); rows() = 1; beat() = 1; pass(0, 0); beat() = 1

@@ -96,6 +96,7 @@ final class FormSentences {
             ring(3); form(-1, -1) = 0; form(-1, 0) = -99
             figure "wv" = 0; form(0, -1) = 0; form(0, 0) = -99
             figure "0<0>" = 1; form(1, -1) = 0; form(1, 0) = -99; figure "0<" = 2; form(2, -1) = 1
+            ring(9); form(0, -1) = 0; form(1, -1) = 0; figure "8>8<" = 3; form(3, -1) = 0
             """);
         s.holds("Terms 3", "Two rows are AKIN: like FORMS, and like TURNS.", """
             ring(5)
@@ -106,6 +107,10 @@ final class FormSentences {
             figure "(w)5" = 6; akin(6, -1) = 0            # a whole round is no like TURN
             figure "2<0<w" = 7; figure "0<w3<" = 8; akin(7, 8) = 1
             figure "v" = 9; akin(9, -1) = 0
+            new                                           # a longer FORM that was looked at does not matter
+            ring(3); figure "(((0<1<2<)5)5)4" = 0; figure "0<" = 1; figure "0<1<1>" = 2; form(0, 299) = 20
+            akin(1, 2) = 1; akin(0, 0) = 1; figure "A" = 3; akin(0, 3) = 1; figure "(((0<1<2<)5)5)3" = 4; akin(0, 4) = 0
+            akin(2, 0) = 0; akin(2, 1) = 1
             """);
     }
 

@@ -70,6 +70,9 @@ final class OrderSentences {
             figure "0<" = 0; figure "1>" = 1; figure "2<" = 2; figure "w" = 3; figure "v" = 4; figure "wwvv0<" = 5
             spent(7, 0) = 3; spent(7, 1) = 5; spent(7, 2) = 4; spent(7, 3) = 3; spent(7, 4) = 3; spent(7, 5) = 15
             spent(11, 3) = 9; spent(14, 0) = 5            # of the set alone
+            new                                           # the first has the greatest PACE, then one between
+            ring(3); person(0, 1, 9); person(0, 2, 1); person(0, 3, 2); person(0, 4, 1); figure "w" = 0; figure "v" = 1
+            spent(7, 0) = 9; spent(7, 1) = 9; spent(14, 0) = 2; spent(14, 1) = 2; spent(11, 0) = 9; spent(14, 0) = 2
             """);
         s.holds("Terms 6", "(as they would stand so, each moving as told).", """
             ring of 3 with 0                              # PACES 1 2 3
@@ -78,6 +81,9 @@ final class OrderSentences {
             new                                           # as set() puts them: 0 1 3 2
             ring(4); person(0, 1, 1); person(0, 10, 2); person(0, 2, 3); person(0, 11, 5)
             figure "1<" = 0; spent(15, 0) = 7; figure "3<" = 1; spent(15, 1) = 4; figure "1<2<" = 2; spent(15, 2) = 12
+            new                                           # seven, PACES 1 .. 7
+            ring of 7 with 0; figure "w0<" = 0; spent(127, 0) = 15; figure "v0<" = 1; spent(127, 1) = 12
+            figure "v5<6<" = 2; spent(127, 2) = 24; figure "w6<0<" = 3; spent(127, 3) = 27
             """);
     }
 
@@ -121,6 +127,8 @@ final class OrderSentences {
             """);
         s.holds("Promise 28: fewest", "BAD: not each RIBBON once", """
             ring(3); order 0 tells 0 1 1; ! fewest(0, -1) = -2; order 0 tells 0 1 3; ! fewest(0, -1) = -2
+            order 0 tells 0 0 1; ! fewest(0, -1) = -2; order 0 tells 1 1 0; ! fewest(0, -1) = -2
+            order 0 tells 2 1 2; ! fewest(0, -1) = -2; order 0 tells 2 2 2; ! fewest(0, -1) = -2
             order 0 tells 0 1 -1; ! fewest(0, -1) = -2; order 0 tells 127 1 2; ! fewest(0, -1) = -2
             order 0 tells -128 1 2; ! fewest(0, -1) = -2; tape(0, 0, 3); ! fewest(0, -1) = -2
             ! fewest(0, 7) = -2                           # named ahead of the last NONE

@@ -214,6 +214,7 @@ final class RingSentences {
         s.holds("Promise 2: person", "FULL", """
             14 * person(2, 5, 5) = 0 ..; person(4, 5, 5) = 14
             ! person(2, 5, 5) = -4; count(0) = 15
+            ! person(5, 5, 5) = -2; ! person(2, 21, 5) = -2; ! person(2, 5, 0) = -2   # BAD is named ahead of it
             """);
     }
 

@@ -49,8 +49,17 @@ final class Sentences {
         name(where, sentence);
         Run calls = new Run(run);
         String title = where + " | " + sentence;
-        green.play(title, calls);
-        plain.play(title, calls);
+        play(green, title, calls);
+        play(plain, title, calls);
+    }
+
+    /** A call that throws breaks its own sentence, and the others are held all the same. */
+    private static void play(Player player, String title, Run calls) {
+        try {
+            player.play(title, calls);
+        } catch (IllegalStateException e) {
+            Check.due(title + ": " + e.getMessage() + ", " + e.getCause(), false);
+        }
     }
 
     private void name(String where, String sentence) {
