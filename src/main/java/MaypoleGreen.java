@@ -423,7 +423,7 @@ public final class MaypoleGreen {
         if (actor == null || act < 0 || act >= ACTS) {
             return 0;
         }
-        return acts.ask(actor, actor.kind, act, x, 0);
+        return acts.perform(actor, act, x);
     }
 
     public int trace(int i) {
@@ -696,8 +696,12 @@ public final class MaypoleGreen {
             return i >= 0 && i < ran && i < KEPT ? bodies[i] : NONE;
         }
 
+        int perform(Person one, int act, int x) {
+            return ask(one, one.kind, act, x, 0);
+        }
+
         /** Runs the body of an act that a KIND has, or else the next KIND above it that has one. */
-        int ask(Person one, int kind, int act, int x, int depth) {
+        private int ask(Person one, int kind, int act, int x, int depth) {
             int has = kind;
             for (int i = 0; i < KINDS && has > DANCER && BODIES[ACTS * has + act] == 0; i++) {
                 has = KIND_ABOVE[has];
@@ -1399,7 +1403,6 @@ public final class MaypoleGreen {
         private final int[] numbers = new int[MOST_ORDERED_PLACES];
         private final int[] reaches = new int[MOST_ORDERED_PLACES];
         private final int[] paces = new int[MOST_ORDERED_PLACES];
-        private final boolean[] seated = new boolean[MOST_ORDERED_PLACES];
         private final int[] row = new int[MOST_ORDERED_PLACES];
         private final int[] best = new int[MOST_ORDERED_PLACES];
         /** The PACES by PLACE, in a FIGURE. */
@@ -1423,13 +1426,12 @@ public final class MaypoleGreen {
         /** A round that is turned has the same sum: so the first row begins with the least number. */
         void seatAll() {
             leastSum = MORE_THAN_ANY;
-            Arrays.fill(seated, false);
-            seated[0] = true;
             row[0] = 0;
-            seatFrom(1, 0);
+            seatFrom(1, 0, 1);
         }
 
-        private void seatFrom(int place, int sum) {
+        /** Those that are seated already are told as bits. */
+        private void seatFrom(int place, int sum, int seated) {
             if (place >= n) {
                 // the way home was in what was tested ahead of this
                 leastSum = sum + apart(row[place - 1], row[0]);
@@ -1438,11 +1440,9 @@ public final class MaypoleGreen {
             }
             for (int guest = 1; guest < n; guest++) {
                 int more = sum + apart(row[place - 1], guest);
-                if (!seated[guest] && more + apart(guest, row[0]) < leastSum) {
-                    seated[guest] = true;
+                if ((seated >>> guest & 1) == 0 && more + apart(guest, row[0]) < leastSum) {
                     row[place] = guest;
-                    seatFrom(place + 1, more);
-                    seated[guest] = false;
+                    seatFrom(place + 1, more, seated | 1 << guest);
                 }
             }
         }

@@ -23,12 +23,17 @@ public final class LanguageTest {
         "@", "native", "volatile", "strictfp", "transient", "var ", "Exact", "MAX_VALUE", "System.out", "random",
         "equals(", "hashCode", "toString", "package ", "yield"};
 
+    private static final Set<String> LIBRARY = Set.of("Arrays.fill", "Arrays.copyOf", "Arrays.copyOfRange",
+        "System.arraycopy", "Math.abs", "Math.max", "Math.min", "Math.floorDiv", "Math.floorMod", "Integer.bitCount",
+        "Integer.compare", "Integer.max", "Integer.min");
+
     public static void main(String[] args) throws IOException {
         face();
         classesInside();
         Path path = Path.of("src/main/java/MaypoleGreen.java");
         String source = Files.readString(path);
         forbidden(source);
+        library(source);
         methodsAreShort(source);
         Check.finish("LanguageTest");
     }
@@ -117,6 +122,22 @@ public final class LanguageTest {
             Check.due("import " + imports.group(1), imports.group(1).equals("java.util.Arrays"));
         }
         Check.due("plain signs alone", source.chars().allMatch(c -> c < 127));
+    }
+
+    /** Of the library only what rule 4 lists, and Arrays over arrays of numbers alone. */
+    private static void library(String source) {
+        String code = source.replaceAll("(?s)/\\*.*?\\*/", "").replaceAll("//[^\n]*", "");
+        Set<String> booleans = new TreeSet<>();
+        Matcher rows = Pattern.compile("boolean\\[\\] (\\w+)").matcher(code);
+        while (rows.find()) {
+            booleans.add(rows.group(1));
+        }
+        Matcher calls = Pattern.compile("\\b([A-Z]\\w*)\\.(\\w+)\\((\\w*)").matcher(code);
+        while (calls.find()) {
+            String call = calls.group(1) + "." + calls.group(2);
+            Check.due("rule 4 lists no " + call, LIBRARY.contains(call));
+            Check.due(call + " over " + calls.group(3), !call.startsWith("Arrays.") || !booleans.contains(calls.group(3)));
+        }
     }
 
     private static void methodsAreShort(String source) {
