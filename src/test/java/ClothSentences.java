@@ -128,6 +128,9 @@ final class ClothSentences {
             new                                           # by TOP, not by the RIBBON itself
             dance of 3 with 500; pass(1, 0); walk(0); cloth(0, *, 0) = 1 0 2; cloth(0, *, 2) = 1 2 2
             picture(0, 1, 2); wrong() = 0; picture(0, 1, 0); wrong() = 1
+            new                                           # each by its own ROW
+            dance of 3 with 500; 3 * walk(0); cloth(0, *, 2) = 2 0 1; cloth(1, *, 2) = 1 2 0; cloth(2, *, 2) = 0 1 2
+            picture(0, 0, 2); picture(1, 0, 1); picture(2, 0, 0); picture(2, 2, 2); wrong() = 0; picture(1, 0, 2); wrong() = 1
             """);
         s.holds("Terms 2", "FOR COLOURS: which COLOURS (0 .. c - 1, c 1 .. 4) the RIBBONS should have had so that fewest "
             + "are wrong", """

@@ -70,6 +70,8 @@ final class FigureSentences {
             figure "v(A)-v" = 3; told(3, *) = 101 0 11 100 101 101 -1
             figure "(0<)-(1>2>)-" = 4; told(4, *) = 1 20 10 -1
             figure "((0<w)-2>)2" = 5; told(5, *) = 101 1 21 101 1 21 -1
+            figure "(0<(1<w)-)2" = 6; told(6, *) = 0 101 11 0 101 11 -1       # of what is inside it alone
+            figure "w(v(0<(1<)-)-)-" = 7; told(7, *) = 100 0 11 100 -1
             """);
     }
 

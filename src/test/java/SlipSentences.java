@@ -37,6 +37,12 @@ final class SlipSentences {
             pass(0, 0); pass(1, 0); slips(0, *) = 20 -1; walk(1); slips(0, *) = 21 -1; end(); begin()
             pass(0, 0); pass(1, 0); walk(0); slips(0, *) = -1; walk(0); slips(0, *) = 22 -1; end(); begin()
             pass(1, 1); walk(0); slips(0, *) = -1         # two slips are none
+            new                                           # of HIGH and BACK, too
+            dance of 4 with 500; figure "0>1>v" = 0
+            pass(0, 0); pass(1, 1); walk(1); slips(0, *) = 1 -1; end(); begin()
+            pass(0, 1); pass(1, 0); walk(1); slips(0, *) = 11 -1; end(); begin()
+            pass(0, 1); pass(1, 1); walk(0); slips(0, *) = 21 -1; end(); begin()
+            dance(0) = 3; slips(0, *) = -1                # as told
             """);
     }
 
